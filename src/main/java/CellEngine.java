@@ -102,7 +102,7 @@ public final class CellEngine {
     }
 
     public int reached() {
-        heap.gather(machine.status == Status.ON);
+        heap.gather(0, machine.status == Status.ON);
         return heap.reachedInAll;
     }
 
@@ -519,8 +519,9 @@ public final class CellEngine {
     }
 
     /**
-     * The cells. Objects stand one behind the other; going through them moves those that are reached to the front
-     * of a second row, which then takes the place of the first: so the cells in use are then the cells reached.
+     * The cells. Objects stand one behind the other; going through them moves those that are reached together, by
+     * way of a second row, so that the cells in use are then the cells reached. To go through all is dear when much
+     * is reached, so the newest are gone through alone at first, as if all the others were reached still.
      */
     private static final class Heap {
         static final int MOST_CELLS = 131072;
@@ -528,6 +529,8 @@ public final class CellEngine {
         static final int GLOBALS = 2048;
         /** The last result stands behind the globals in their row. */
         static final int RESULT = GLOBALS;
+        /** So many new cells that are reached are moved again and again before they count as old. */
+        static final int MOST_YOUNG = 1024;
 
         final Stacks stacks;
         final long[] globals = new long[GLOBALS + 1];
@@ -537,6 +540,10 @@ public final class CellEngine {
         int used;
         long[] spare = new long[0];
         int spareUsed;
+        /** The cells before this one are old. */
+        int old;
+        /** Whether an old object may lead to a newer one, which the newest alone do not show. */
+        boolean oldLeadsToNew;
         int limit = 65536;
         int every = MOST_EVERY;
         int fresh;
@@ -567,7 +574,10 @@ public final class CellEngine {
                 return false;
             }
             if (fresh >= every || used + size > limit) {
-                gather(true);
+                gather(oldLeadsToNew ? 0 : old, true);
+            }
+            if (used + size > limit) {
+                gather(0, true);
             }
             if (used + size > limit) {
                 return false;
@@ -596,25 +606,36 @@ public final class CellEngine {
             return at;
         }
 
-        /** Moves what is reached; the frames' values are left out when there is no run on. */
-        void gather(boolean running) {
+        /** Part of an object becomes another value. */
+        void change(int cell, long value) {
+            cells[cell] = value;
+            if (cell < old && Value.kind(value) >= Value.RECORD && Value.number(value) >= old) {
+                oldLeadsToNew = true;
+            }
+        }
+
+        /**
+         * Moves what is reached together, from a cell on; those before it stay as they are. The frames' values count
+         * only while a run is on. How many cells the globals and the result reach is told when all are gone through.
+         */
+        void gather(int from, boolean running) {
             if (spare.length < cells.length) {
                 spare = new long[cells.length];
             }
-            spareUsed = 0;
-            int scanned = 0;
+            spareUsed = from;
+            int scanned = from;
             for (int phase = 0; phase < (running ? 4 : 2); phase++) {
                 long[] row = phase < 2 ? globals : phase == 2 ? stacks.values : stacks.closures;
-                int from = phase == 1 ? RESULT : 0;
-                int to = phase == 0 ? globalsUsed : phase == 1 ? RESULT + 1 : phase == 2 ? stacks.top : stacks.frames;
-                for (int i = from; i < to; i++) {
-                    row[i] = moved(row[i]);
+                int begin = phase == 1 ? RESULT : 0;
+                int end = phase == 0 ? globalsUsed : phase == 1 ? RESULT + 1 : phase == 2 ? stacks.top : stacks.frames;
+                for (int i = begin; i < end; i++) {
+                    row[i] = moved(row[i], from);
                 }
                 for (int turn = 0; turn < MOST_CELLS && scanned < spareUsed; turn++) {
                     int size = sizeOf(spare[scanned]);
                     if (((int) spare[scanned] & Value.KIND_MASK) != Value.STRING) {
                         for (int i = scanned + 1; i < scanned + size; i++) {
-                            spare[i] = moved(spare[i]);
+                            spare[i] = moved(spare[i], from);
                         }
                     }
                     scanned += size;
@@ -622,24 +643,26 @@ public final class CellEngine {
                 reachedFromGlobals = phase == 0 ? spareUsed : reachedFromGlobals;
                 reachedInAll = phase <= 1 ? spareUsed : reachedInAll;
             }
-            swapRows();
+            moveBack(from);
         }
 
-        private void swapRows() {
-            long[] row = cells;
-            cells = spare;
-            spare = row;
+        private void moveBack(int from) {
+            System.arraycopy(spare, from, cells, from, spareUsed - from);
             used = spareUsed;
             fresh = 0;
+            if (from == 0 || used - from > MOST_YOUNG) {
+                old = used;
+                oldLeadsToNew = false;
+            }
         }
 
         /** The value behind the move of its object; an object that has moved has its new address as a scalar for a head. */
-        private long moved(long value) {
+        private long moved(long value, int from) {
             int kind = (int) value & Value.KIND_MASK;
-            if (kind < Value.RECORD) {
+            int at = (int) (value >> 3);
+            if (kind < Value.RECORD || at < from) {
                 return value;
             }
-            int at = (int) (value >> 3);
             long head = cells[at];
             if (((int) head & Value.KIND_MASK) == Value.SCALAR) {
                 return head | kind;
@@ -662,7 +685,7 @@ public final class CellEngine {
         }
 
         int keep() {
-            gather(false);
+            gather(0, false);
             kept = reachedFromGlobals;
             if (kept > keptCells.length) {
                 keptCells = new long[longer(keptCells.length, kept, MOST_CELLS)];
@@ -680,6 +703,8 @@ public final class CellEngine {
             System.arraycopy(keptCells, 0, cells, 0, kept);
             used = kept;
             fresh = 0;
+            old = kept;
+            oldLeadsToNew = false;
             return kept;
         }
 
@@ -821,7 +846,7 @@ public final class CellEngine {
             if (Value.kind(closure) != Value.CLOSURE || i < 0 || i >= heap.parts(closure)) {
                 return Status.FAULT;
             }
-            heap.cells[Value.number(closure) + 1 + i] = stacks.peek(0);
+            heap.change(Value.number(closure) + 1 + i, stacks.peek(0));
             return stacks.drop();
         }
 
@@ -850,7 +875,7 @@ public final class CellEngine {
             if (Value.kind(reference) != Value.REFERENCE) {
                 return Status.FAULT;
             }
-            heap.cells[Value.number(reference) + 1] = stacks.peek(0);
+            heap.change(Value.number(reference) + 1, stacks.peek(0));
             stacks.drop();
             return stacks.drop();
         }

@@ -33,7 +33,7 @@ public final class CellEngineFuzzTest {
         for (int how = 0; how < 5; how++) {
             if (ENDS[how] == 0) fail("no run ended by " + how);
         }
-        if (args.length > 0) {
+        if (args.length > 2) {
             System.out.println(java.util.Arrays.toString(USED));
             System.out.println(java.util.Arrays.toString(PRIMITIVES));
             System.out.println(java.util.Arrays.toString(ENDS));
@@ -128,6 +128,9 @@ public final class CellEngineFuzzTest {
     private int fitting() {
         int top = kindAt(0);
         int second = kindAt(1);
+        for (int turn = oneIn(3) ? 0 : 40; turn < 40; turn++) {
+            if (choosePrimitive()) return 34;
+        }
         for (int turn = 0; turn < 200; turn++) {
             int op = below(40);
             if (fits(op, top, second) && !(op == 0 && !oneIn(20)) && !(op == 28 && !oneIn(4))) return op;
