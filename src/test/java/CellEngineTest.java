@@ -159,6 +159,10 @@ public final class CellEngineTest {
         due("65,536 cells", run(y, 0, 1000000), NO_ROOM);
         due("ticks", y.count(3), 32769);
         due("reached", y.reached(), 65536);
+        y.cut(0);
+        add(y, GLOBAL, 1, GET, SETGLOBAL, 1, CLOSURE, 0, 0, CLOSURE, 0, 0, CLOSURE, 0, 0);
+        due("65,536 cells, one by one", run(y, 0, 0), NO_ROOM);
+        due("at", y.count(10), 11);
     }
 
     private static void code() {
@@ -180,6 +184,12 @@ public final class CellEngineTest {
         for (int i = 1; i <= 500; i++) {
             due("word " + i, y.code(i), i);
         }
+        // More calls than an object is promised for, but the limit is as it is.
+        for (int i = 501; i <= 262144; i++) {
+            y.code(i);
+        }
+        due("262,145", y.code(0), FULL);
+        due("words", y.count(0), 262144);
     }
 
     private static void cut() {
@@ -822,6 +832,8 @@ public final class CellEngineTest {
         CellEngine w = with(LOCALS, 1, INT, 4095, STORE, 0);
         w.limits(4095, 0, 0);
         due("no room for it", bigClosure(w, 4095), NO_ROOM);
+        CellEngine v = with(LOCALS, 1, INT, 4096, STORE, 0);
+        due("closure of 4,096", bigClosure(v, 4096), FAULT);
     }
 
     /** Puts as many scalars as local 0 tells, and makes a closure of them. */
@@ -856,6 +868,8 @@ public final class CellEngineTest {
             FREE, 0, RETURN);
         due("frames", y.count(6), 1);
         due("values", y.count(7), 2);
+        due("a new run has no closure", y.start(10, 0), true);
+        due("FREE", y.step(1), FAULT);
         // A loop of tail calls stays one frame; it goes back where the first call came from.
         CellEngine z = with(CLOSURE, 12, 0, SETGLOBAL, 1, GLOBAL, 1, INT, 20000, CALL, STOP, 0);
         add(z, LOCAL, 0, UNLESS, 25, GLOBAL, 1, LOCAL, 0, INT, 1, PRIM, 1, TAIL, INT, 77, RETURN);
@@ -922,6 +936,13 @@ public final class CellEngineTest {
         due("value", y.look(NONE, 1, 1), 6);
         due("frames", y.count(6), 1);
         due("place", y.count(10), 11);
+        // The stack and the locals of the handler's frame stay, what it had above the handler's height goes.
+        CellEngine k = with(LOCALS, 2, INT, 3, HANDLE, 15, INT, 4, CLOSURE, 18, 0, INT, 5, CALL, 0, RECORD, 2, STOP,
+            NAME, 6, RAISE);
+        due("run", run(k, 0, 0), STOPPED);
+        due("stack", k.look(NONE, 1, 1), 3);
+        due("raised", k.look(NONE, 2, 1), 6);
+        due("locals", k.count(7), 2);
         // The newest handler catches; the older one is there still.
         CellEngine z = with(HANDLE, 9, HANDLE, 12, NAME, 1, RAISE, 0, 0, INT, 90, STOP, POP, NAME, 2, RAISE);
         due("run", run(z, 0, 0), STOPPED);
@@ -1003,6 +1024,19 @@ public final class CellEngineTest {
         due("run", run(x, 0, 0), STOPPED);
         due("strings", x.look(NONE, 1, 1), 1);
         due("other strings", x.look(NONE, 2, 1), 0);
+        x.cut(0);
+        add(x, TEXT, 0, TEXT, 1, INT, 0, INT, 4, PRIM, 30, EQUAL);
+        add(x, TEXT, 1, INT, 1, INT, 2, PRIM, 30, TEXT, 0, INT, 1, INT, 2, PRIM, 30, EQUAL);
+        add(x, TEXT, 0, INT, 'e', PRIM, 29, PRIM, 27, TEXT, 1, EQUAL, RECORD, 3, STOP);
+        due("run", run(x, 0, 0), STOPPED);
+        due("part of a string", x.look(NONE, 1, 1), 1);
+        due("parts of strings", x.look(NONE, 2, 1), 1);
+        due("joined", x.look(NONE, 3, 1), 1);
+        // What is found of two values says nothing of the next two.
+        dueScalar("one after the other", 1, INT, 7, RECORD, 1, INT, 8, RECORD, 1, EQUAL, POP,
+            INT, 9, RECORD, 1, INT, 9, RECORD, 1, EQUAL, STOP);
+        dueScalar("one after the other", 0, INT, 7, RECORD, 1, SETGLOBAL, 8, INT, 8, RECORD, 1, SETGLOBAL, 9,
+            GLOBAL, 8, BUILD, 1, GLOBAL, 9, BUILD, 1, EQUAL, POP, GLOBAL, 8, GLOBAL, 9, EQUAL, STOP);
         sharedParts();
     }
 
@@ -1432,6 +1466,7 @@ public final class CellEngineTest {
         add(x, INT, 0, REF, SETGLOBAL, 2, INT, 0, SETGLOBAL, 3);
         int loop = x.count(0);
         add(x, TICK, GLOBAL, 2, GLOBAL, 3, INT, 1, PRIM, 0, DUP, SETGLOBAL, 3, RECORD, 1, PUT);
+        add(x, INT, 0, REF, POP, INT, 0, REF, POP, INT, 0, REF, POP);
         add(x, GLOBAL, 2, GET, FIELD, 0, GLOBAL, 3, SAME, UNLESS, 999, JUMP, loop);
         x.limits(40010, 0, 0);
         for (int every = 1; every <= 10000; every *= 100) {
@@ -1469,6 +1504,17 @@ public final class CellEngineTest {
         due("frames", w.count(6), 5);
         due("values", w.count(7), 4 * 16383 + 1);
         due("place", w.count(10), 7);
+        for (int n = 4; n <= 5; n++) {
+            CellEngine y = new CellEngine();
+            for (int frame = 1; frame <= 4; frame++) {
+                add(y, LOCALS, 16383, CLOSURE, 8 * frame, 0, INT, 0, CALL);
+            }
+            add(y, LOCALS, n, POP);
+            due("LOCALS " + n, run(y, 0, 0), n == 4 ? FAULT : NO_ROOM);
+            due("values", y.count(7), n == 4 ? 65536 : 65533);
+            due("place", y.count(10), n == 4 ? 34 : 32);
+        }
+        fullStack();
         CellEngine v = with(CLOSURE, 7, 0, SETGLOBAL, 1, JUMP, 7, GLOBAL, 1, INT, 0, CALL);
         due("8,192 frames", run(v, 0, 0), NO_ROOM);
         due("frames", v.count(6), 8192);
@@ -1481,5 +1527,20 @@ public final class CellEngineTest {
         CellEngine t = with(HANDLE, 8, HANDLE, 8, NAME, 1, RAISE, 0, HANDLE, 8, JUMP, 8);
         due("handlers again", run(t, 0, 0), NO_ROOM);
         due("handlers", t.count(8), 1024);
+    }
+
+    /** A full stack still takes what does not make it higher. */
+    private static void fullStack() {
+        int[][] last = {{PRIM, 0}, {SWAP}, {RECORD, 2}, {REF}, {POP}, {STORE, 0}, {CLOSURE, 1, 1}, {PRIM, 38}, {TICK}};
+        for (int[] op : last) {
+            CellEngine x = with(LOCALS, 1, INT, 65533, STORE, 0);
+            add(x, LOCAL, 0, UNLESS, 22, LOCAL, 0, LOCAL, 0, INT, 1, PRIM, 1, STORE, 0, JUMP, 6, INT, 1, INT, 1);
+            due("full", run(x, 0, 0), FAULT);
+            due("full", x.count(7), 65536);
+            add(x, op);
+            add(x, DEPTH, 1, STOP);
+            due("full, then " + op[0], run(x, 0, 5), STOPPED);
+            due("behind " + op[0], x.count(5), 1);
+        }
     }
 }
