@@ -1020,13 +1020,14 @@ public final class CellEngineTest {
         CellEngine x = new CellEngine();
         text(x, "abcd");
         text(x, "abcde");
+        text(x, "bc");
         add(x, TEXT, 0, TEXT, 0, EQUAL, TEXT, 0, TEXT, 1, EQUAL, RECORD, 2, STOP);
         due("run", run(x, 0, 0), STOPPED);
         due("strings", x.look(NONE, 1, 1), 1);
         due("other strings", x.look(NONE, 2, 1), 0);
         x.cut(0);
         add(x, TEXT, 0, TEXT, 1, INT, 0, INT, 4, PRIM, 30, EQUAL);
-        add(x, TEXT, 1, INT, 1, INT, 2, PRIM, 30, TEXT, 0, INT, 1, INT, 2, PRIM, 30, EQUAL);
+        add(x, TEXT, 1, INT, 1, INT, 2, PRIM, 30, TEXT, 2, EQUAL);
         add(x, TEXT, 0, INT, 'e', PRIM, 29, PRIM, 27, TEXT, 1, EQUAL, RECORD, 3, STOP);
         due("run", run(x, 0, 0), STOPPED);
         due("part of a string", x.look(NONE, 1, 1), 1);
@@ -1463,7 +1464,11 @@ public final class CellEngineTest {
         CellEngine x = with(INT, 0, SETGLOBAL, 1, TICK, GLOBAL, 1, REF, SETGLOBAL, 1, JUMP, 4);
         due("much", run(x, 0, 20000), NO_FUEL);
         x.cut(0);
-        add(x, INT, 0, REF, SETGLOBAL, 2, INT, 0, SETGLOBAL, 3);
+        add(x, INT, 0, REF, SETGLOBAL, 2);
+        run(x, 0, 0);
+        due("reached", x.reached(), 40002);
+        x.cut(0);
+        add(x, INT, 0, SETGLOBAL, 3);
         int loop = x.count(0);
         add(x, TICK, GLOBAL, 2, GLOBAL, 3, INT, 1, PRIM, 0, DUP, SETGLOBAL, 3, RECORD, 1, PUT);
         add(x, INT, 0, REF, POP, INT, 0, REF, POP, INT, 0, REF, POP);
