@@ -168,6 +168,83 @@ class Checks {
         due(what + " made", x.count(4), 0);
     }
 
+    /** Puts 0 .. n - 1 on the stack, does the last words and stops. */
+    static CellEngine wide(int n, int... last) {
+        CellEngine x = with(LOCALS, 1, LOCAL, 0, LOCAL, 0, INT, 1, PRIM, 0, STORE, 0, LOCAL, 0, INT, n, PRIM, 7);
+        add(x, UNLESS, 22, JUMP, 2);
+        add(x, last);
+        x.code(STOP);
+        due("wide run", run(x, 0, 100), STOPPED);
+        return x;
+    }
+
+    /** Its result is a string of 65,535 bytes. */
+    static CellEngine longest() {
+        CellEngine x = new CellEngine();
+        text(x, "12345678");
+        add(x, TEXT, 0);
+        for (int k = 0; k < 12; k++) {
+            add(x, DUP, PRIM, 27);
+        }
+        add(x, DUP, INT, 0, INT, 32767, PRIM, 30, PRIM, 27, STOP);
+        due("longest run", run(x, 0, 0), STOPPED);
+        return x;
+    }
+
+    private static final int[] GLOBALS_SEEN = {NONE, 0, 1, 2, 3, 10, 2047};
+
+    /** What can be asked of an engine without changing it: all counts, the output's ends, and some globals. */
+    static int[] seen(CellEngine x) {
+        int[] row = {};
+        for (int what = 0; what <= 11; what++) {
+            row = join(row, x.count(what));
+        }
+        int last = x.count(9);
+        row = join(row, x.out(0), x.out(last - 1), x.out(last));
+        for (int i : GLOBALS_SEEN) {
+            row = join(row, x.look(i, 0, 0), x.look(i, 0, 1), x.look(i, 0, 2));
+        }
+        return row;
+    }
+
+    static void dueUnchanged(String what, CellEngine x, int[] before) {
+        int[] now = seen(x);
+        for (int k = 0; k < before.length; k++) {
+            due(what + " changes nothing: " + (k < 12 ? "count " + k : "number " + k), now[k], before[k]);
+        }
+    }
+
+    /** Starts a run and goes on until this place is the next one; the code before it goes straight there. */
+    static CellEngine upTo(int place, int fuel, CellEngine x) {
+        x.start(0, fuel);
+        int status = ON;
+        for (int turn = 0; turn < 200 && x.count(10) != place && status == ON; turn++) {
+            status = x.step(1);
+        }
+        due("on the way to " + place, status, ON);
+        due("before the instruction", x.count(10), place);
+        return x;
+    }
+
+    /** The next instruction ends the run so and does nothing; behind its end the same is told again. */
+    static void dueNothing(String what, CellEngine x, int status) {
+        int[] before = seen(x);
+        due(what + " ends", x.step(1), status);
+        dueUnchanged(what, x, before);
+        due(what + " ends, told again", x.step(100000), status);
+        due(what + " ends, told again", x.step(0), status);
+        dueUnchanged(what + " again", x, before);
+        due(what + " result's kind", x.look(NONE, 0, 0), 0);
+        due(what + " result", x.look(NONE, 0, 1), 0);
+    }
+
+    /** The next instruction is done, and the run is on. */
+    static void dueDone(String what, CellEngine x) {
+        int done = x.count(11);
+        due(what + " goes", x.step(1), ON);
+        due(what + " is done", x.count(11), done + 1);
+    }
+
     static void end() {
         System.out.println(wrong == 0 ? "all answers are as due" : wrong + " answers are not as due");
         if (wrong != 0) {
