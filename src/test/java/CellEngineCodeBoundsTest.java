@@ -6,13 +6,15 @@ public final class CellEngineCodeBoundsTest extends Checks {
     private static final int SCALAR = 1, EXCEPTION = 2, OF_RECORD = 4, CONSTRUCTED = 8, OF_CLOSURE = 16, REFERENCE = 32,
         OF_STRING = 64, OF_PACKET = 128, ANY = 255;
 
-    /** An instruction with operands that fit, and the kinds of what it takes, the last one on top. */
+    /** An instruction with operands that fit, how many values it puts, and the kinds of what it takes, the last one on top. */
     private static final class Case {
         final int[] words;
+        final int puts;
         final int[] kinds;
 
-        Case(int[] words, int... kinds) {
+        Case(int[] words, int puts, int... kinds) {
             this.words = words;
+            this.puts = puts;
             this.kinds = kinds;
         }
 
@@ -30,35 +32,36 @@ public final class CellEngineCodeBoundsTest extends Checks {
     }
 
     private static final Case[] CASES = {
-        new Case(op(STOP), ANY), new Case(op(INT, 4)), new Case(op(TEXT, 0)), new Case(op(LOCAL, 1)),
-        new Case(op(STORE, 1), ANY), new Case(op(FREE, 0)), new Case(op(GLOBAL, 0)), new Case(op(SETGLOBAL, 0), ANY),
-        new Case(op(POP), ANY), new Case(op(DUP), ANY), new Case(op(RECORD, 1), ANY), new Case(op(RECORD, 2), ANY, ANY),
-        new Case(op(RECORD, 3), ANY, ANY, ANY), new Case(op(FIELD, 0), OF_RECORD), new Case(op(BUILD, 7), ANY),
-        new Case(op(ARGUMENT), CONSTRUCTED | OF_PACKET), new Case(op(TAG), CONSTRUCTED | SCALAR),
-        new Case(op(CLOSURE, 0, 0)), new Case(op(CLOSURE, 0, 1), ANY), new Case(op(CLOSURE, 0, 2), ANY, ANY),
-        new Case(op(PATCH, 0), OF_CLOSURE, ANY), new Case(op(CALL), OF_CLOSURE, ANY), new Case(op(TAIL), OF_CLOSURE, ANY),
-        new Case(op(RETURN), ANY), new Case(op(JUMP, 0)), new Case(op(UNLESS, 0), SCALAR),
-        new Case(op(SWITCH, 0, 0), SCALAR), new Case(op(SWITCH, 2, 0, 0, 0), SCALAR), new Case(op(REF), ANY),
-        new Case(op(GET), REFERENCE), new Case(op(PUT), REFERENCE, ANY), new Case(op(HANDLE, 0)),
-        new Case(op(RAISE), EXCEPTION | OF_PACKET), new Case(op(NAME, 0)), new Case(op(PACKET), EXCEPTION, ANY),
-        new Case(op(NAMEOF), EXCEPTION | OF_PACKET), new Case(op(SAME), ANY, ANY), new Case(op(EQUAL), ANY, ANY),
-        new Case(op(TICK)), new Case(op(MAKE, 0)), new Case(op(LOCALS, 0)), new Case(op(DEPTH, 0)),
-        new Case(op(SWAP), ANY, ANY)};
+        new Case(op(STOP), 0, ANY), new Case(op(INT, 4), 1), new Case(op(TEXT, 0), 1), new Case(op(LOCAL, 1), 1),
+        new Case(op(STORE, 1), 0, ANY), new Case(op(FREE, 0), 1), new Case(op(GLOBAL, 0), 1),
+        new Case(op(SETGLOBAL, 0), 0, ANY), new Case(op(POP), 0, ANY), new Case(op(DUP), 2, ANY),
+        new Case(op(RECORD, 1), 1, ANY), new Case(op(RECORD, 2), 1, ANY, ANY), new Case(op(RECORD, 3), 1, ANY, ANY, ANY),
+        new Case(op(FIELD, 0), 1, OF_RECORD), new Case(op(BUILD, 7), 1, ANY),
+        new Case(op(ARGUMENT), 1, CONSTRUCTED | OF_PACKET), new Case(op(TAG), 1, CONSTRUCTED | SCALAR),
+        new Case(op(CLOSURE, 0, 0), 1), new Case(op(CLOSURE, 0, 1), 1, ANY), new Case(op(CLOSURE, 0, 2), 1, ANY, ANY),
+        new Case(op(PATCH, 0), 1, OF_CLOSURE, ANY), new Case(op(CALL), 1, OF_CLOSURE, ANY),
+        new Case(op(TAIL), 0, OF_CLOSURE, ANY), new Case(op(RETURN), 0, ANY), new Case(op(JUMP, 0), 0),
+        new Case(op(UNLESS, 0), 0, SCALAR), new Case(op(SWITCH, 0, 0), 0, SCALAR),
+        new Case(op(SWITCH, 2, 0, 0, 0), 0, SCALAR), new Case(op(REF), 1, ANY), new Case(op(GET), 1, REFERENCE),
+        new Case(op(PUT), 0, REFERENCE, ANY), new Case(op(HANDLE, 0), 0), new Case(op(RAISE), 0, EXCEPTION | OF_PACKET),
+        new Case(op(NAME, 0), 1), new Case(op(PACKET), 1, EXCEPTION, ANY), new Case(op(NAMEOF), 1, EXCEPTION | OF_PACKET),
+        new Case(op(SAME), 1, ANY, ANY), new Case(op(EQUAL), 1, ANY, ANY), new Case(op(TICK), 0), new Case(op(MAKE, 3), 0),
+        new Case(op(LOCALS, 5), 0), new Case(op(DEPTH, 2), 0), new Case(op(SWAP), 2, ANY, ANY)};
 
     private static Case ofPrimitive(int p) {
         int[] words = {PRIM, p};
         if (p == 3 || p == 4 || p == 23 || p == 26 || p == 29 || p == 38 || p == 39) {
-            return new Case(words, SCALAR);
+            return new Case(words, 1, SCALAR);
         }
         if (p <= 26) {
-            return new Case(words, SCALAR, SCALAR);
+            return new Case(words, 1, SCALAR, SCALAR);
         }
         if (p == 28 || p == 37 || p == 41) {
-            return new Case(words, OF_STRING);
+            return new Case(words, 1, OF_STRING);
         }
         // The constructed value is a list, the scalar is none: it is not 0.
-        return p == 30 ? new Case(words, OF_STRING, SCALAR, SCALAR) : p == 31 ? new Case(words, OF_STRING, SCALAR)
-            : p == 40 ? new Case(words, CONSTRUCTED) : new Case(words, OF_STRING, OF_STRING);
+        return p == 30 ? new Case(words, 1, OF_STRING, SCALAR, SCALAR) : p == 31 ? new Case(words, 1, OF_STRING, SCALAR)
+            : p == 40 ? new Case(words, 1, CONSTRUCTED) : new Case(words, 1, OF_STRING, OF_STRING);
     }
 
     private static Case[] allCases() {
@@ -71,6 +74,7 @@ public final class CellEngineCodeBoundsTest extends Checks {
 
     public static void main(String[] args) {
         everyInstruction();
+        whatChanges();
         stackTooSmall();
         stackOfTheFrameBelow();
         otherKinds();
@@ -98,7 +102,7 @@ public final class CellEngineCodeBoundsTest extends Checks {
 
     private static final int KINDS_AT = 100;
 
-    /** Globals 100 .. 107 are of kinds 0 .. 7; then a frame with two locals and a closure of one value is the top one. */
+    /** Globals 100 .. 107 are of kinds 0 .. 7; then a frame with five locals and a closure of one value is the top one. */
     private static CellEngine prepared() {
         CellEngine x = new CellEngine();
         text(x, "twelve bytes");
@@ -107,7 +111,7 @@ public final class CellEngineCodeBoundsTest extends Checks {
         add(x, INT, 5, REF, SETGLOBAL, KINDS_AT + 5, TEXT, 0, SETGLOBAL, KINDS_AT + 6);
         add(x, GLOBAL, KINDS_AT + 1, INT, 5, PACKET, SETGLOBAL, KINDS_AT + 7);
         int place = x.count(0) + 8;
-        add(x, INT, 5, CLOSURE, place, 1, INT, 6, CALL, LOCALS, 2);
+        add(x, INT, 5, CLOSURE, place, 1, INT, 6, CALL, LOCALS, 5);
         return x;
     }
 
@@ -141,17 +145,69 @@ public final class CellEngineCodeBoundsTest extends Checks {
         }
     }
 
+    /** How much of this count more there is behind an instruction that fits. */
+    private static int more(Case c, int what) {
+        int op = c.words[0];
+        int p = op == PRIM ? c.words[1] : NONE;
+        switch (what) {
+            case 2: return op == TICK ? -1 : 0;
+            case 3: return op == TICK ? 1 : 0;
+            // A string of two times 12 bytes, of one, of 5, of a digit, of one again, and a list of 12.
+            case 4: return op == MAKE ? 3 : p == 27 ? 7 : p == 29 || p == 38 || p == 40 ? 2 : p == 30 ? 3 : p == 41 ? 60 : 0;
+            case 5: return op == DEPTH ? 2 : 0;
+            case 6: return op == CALL ? 1 : op == RETURN ? -1 : 0;
+            // With TAIL the five locals become one; with RETURN they go, and the value is put below.
+            case 7: return c.puts - c.kinds.length - (op == TAIL ? 4 : op == RETURN ? 4 : 0);
+            case 8: return op == HANDLE ? 1 : 0;
+            case 9: return p == 37 ? 12 : 0;
+            case 11: return 1;
+            default: return 0;
+        }
+    }
+
+    private static void whatChanges() {
+        where = "an instruction takes and puts as many as said, and changes no other count";
+        for (Case c : allCases()) {
+            CellEngine x = before(c, fitting(c));
+            int[] counts = seen(x);
+            int place = x.count(10);
+            due(c.name() + " goes", x.step(1), c.end());
+            for (int what = 0; what <= 11; what++) {
+                if (what != 10) {
+                    due(c.name() + ": count " + what, x.count(what), counts[what] + more(c, what));
+                }
+            }
+            boolean straight = c.words[0] < CALL || c.words[0] > SWITCH;
+            if (straight) {
+                due(c.name() + ": place", x.count(10), place + c.words.length);
+            }
+        }
+    }
+
+    /** As many values as are missing stand where the stack would have them: in the last locals. */
+    private static CellEngine withLess(Case c, int less) {
+        CellEngine x = prepared();
+        int[] kinds = fitting(c);
+        for (int k = 0; k < less; k++) {
+            add(x, GLOBAL, KINDS_AT + kinds[k], STORE, 5 - less + k);
+        }
+        for (int k = less; k < kinds.length; k++) {
+            add(x, GLOBAL, KINDS_AT + kinds[k]);
+        }
+        int place = x.count(0);
+        add(x, c.words);
+        return upTo(place, 9, x);
+    }
+
     private static void stackTooSmall() {
         where = "fault: finds a stack too small";
         for (Case c : allCases()) {
-            int[] kinds = fitting(c);
-            CellEngine x = before(c, kinds);
+            CellEngine x = withLess(c, 0);
             int done = x.count(11);
             due(c.name() + " with as much as it takes", x.step(1), c.end());
             due(c.name() + " is done", x.count(11), done + 1);
-            for (int less = 1; less <= kinds.length; less++) {
-                dueNothing(c.name() + " with " + less + " less",
-                    before(c, java.util.Arrays.copyOfRange(kinds, less, kinds.length)), FAULT);
+            for (int less = 1; less <= c.kinds.length; less++) {
+                dueNothing(c.name() + " with " + less + " less", withLess(c, less), FAULT);
             }
         }
     }
@@ -162,11 +218,10 @@ public final class CellEngineCodeBoundsTest extends Checks {
             int[] kinds = fitting(c);
             if (kinds.length > 0) {
                 CellEngine x = prepared();
-                for (int kind : kinds) {
-                    add(x, GLOBAL, KINDS_AT + kind);
-                }
+                add(x, GLOBAL, KINDS_AT + kinds[0]);
                 int place = x.count(0) + 8;
-                add(x, INT, 5, CLOSURE, place, 1, INT, 6, CALL, LOCALS, 2);
+                // The value below is the very next one, but for STORE, which needs a local.
+                add(x, INT, 5, CLOSURE, place, 1, INT, 6, CALL, LOCALS, c.words[0] == STORE ? 2 : 0);
                 for (int k = 1; k < kinds.length; k++) {
                     add(x, GLOBAL, KINDS_AT + kinds[k]);
                 }
@@ -692,6 +747,27 @@ public final class CellEngineCodeBoundsTest extends Checks {
         }
     }
 
+    /** Values that were compared, and found unequal, say nothing of those compared next. */
+    private static void equalityAnew() {
+        // Globals 1, 2, 3 are records of 1, 1, 2.
+        int[] made = {INT, 1, RECORD, 1, SETGLOBAL, 1, INT, 1, RECORD, 1, SETGLOBAL, 2, INT, 2, RECORD, 1, SETGLOBAL, 3};
+        for (int first = 1; first <= 3; first++) {
+            for (int second = 1; second <= 3; second++) {
+                for (int third = 1; third <= 3; third++) {
+                    int[] pairs = {GLOBAL, first, GLOBAL, first, RECORD, 2, GLOBAL, second, GLOBAL, third, RECORD, 2, EQUAL};
+                    boolean alike = (first == 3) == (second == 3) && (first == 3) == (third == 3);
+                    CellEngine x = with(join(made, pairs));
+                    add(x, GLOBAL, 1, GLOBAL, 2, EQUAL, GLOBAL, 2, GLOBAL, 3, EQUAL, GLOBAL, 3, GLOBAL, 1, EQUAL, RECORD, 4, STOP);
+                    due("run", run(x, 0, 0), STOPPED);
+                    int[] want = {alike ? 1 : 0, 1, 0, 0};
+                    for (int k = 0; k < 4; k++) {
+                        due(first + ", " + second + ", " + third + ": " + k, x.look(NONE, k + 1, 1), want[k]);
+                    }
+                }
+            }
+        }
+    }
+
     private static void equality() {
         where = "EQUAL at its ends";
         CellEngine x = longest();
@@ -710,6 +786,22 @@ public final class CellEngineCodeBoundsTest extends Checks {
         due("strings without bytes", y.look(NONE, 1, 1), 1);
         due("are not the same", y.look(NONE, 2, 1), 0);
         due("nor equal to a scalar", y.look(NONE, 3, 1), 0);
+        for (int n = 1; n <= 13; n++) {
+            String bytes = "abcbefgcijkfm".substring(0, n);
+            for (int k = 0; k < n; k++) {
+                CellEngine z = withTexts(bytes, bytes.substring(0, k) + "\u00ff" + bytes.substring(k + 1), TEXT, 0, TEXT, 1, EQUAL);
+                add(z, TEXT, 0, TEXT, 0, EQUAL, RECORD, 2, STOP);
+                due("run", run(z, 0, 0), STOPPED);
+                due(n + " bytes, byte " + k + " another", z.look(NONE, 1, 1), 0);
+                due(n + " bytes, all alike", z.look(NONE, 2, 1), 1);
+            }
+        }
+        equalityAnew();
+        CellEngine w = withTexts("ab", "", TEXT, 0, PRIM, 41, INT, 'a', INT, 'b', INT, 0, RECORD, 2, BUILD, 1, RECORD, 2, BUILD, 1);
+        add(w, DUP, SETGLOBAL, 1, EQUAL, GLOBAL, 1, TEXT, 0, PRIM, 41, EQUAL, RECORD, 2, STOP);
+        due("run", run(w, 0, 0), STOPPED);
+        due("the list of 41 and one made by hand", w.look(NONE, 1, 1), 1);
+        due("one made by hand and the list of 41", w.look(NONE, 2, 1), 1);
         dueScalar("tags", 0, INT, 7, BUILD, MIN, INT, 7, BUILD, MAX, EQUAL, STOP);
         dueScalar("tags", 1, INT, 7, BUILD, MIN, INT, 7, BUILD, MIN, EQUAL, STOP);
         dueScalar("scalars", 0, INT, MIN, INT, MAX, EQUAL, STOP);

@@ -763,6 +763,18 @@ public final class CellEngineFaceBoundsTest extends Checks {
             w.limits(0, limit, 0);
             due("made 5 and limit " + limit, w.step(1), limit == 5 ? ON : NO_ROOM);
         }
+        // Five are made, which is above 4; only what makes more of them minds.
+        CellEngine u = with(MAKE, 5, INT, 1, REF, RECORD, 1, BUILD, 1, CLOSURE, 0, 1, NAME, 1, SWAP, PACKET, PRIM, 38);
+        u.limits(100, 9, 0);
+        upTo(2, 0, u);
+        u.limits(100, 4, 0);
+        due("other objects count as none", u.step(8), ON);
+        due("made", u.count(4), 5);
+        CellEngine t = with(MAKE, 5, INT, 1, PRIM, 38);
+        t.limits(100, 9, 0);
+        upTo(4, 0, t);
+        t.limits(100, 4, 0);
+        dueNothing("a string of digits does", t, NO_ROOM);
         CellEngine v = with(INT, 0, REF, POP, CLOSURE, 0, 0, CLOSURE, 0, 0);
         upTo(4, 0, v);
         v.limits(1, 0, 0);
@@ -826,9 +838,28 @@ public final class CellEngineFaceBoundsTest extends Checks {
             due("run", run(x, 0, 0), STOPPED);
             due("nothing is reached", x.reached(), 0);
         }
+        reachedWhileOn();
         due("wide record", wide(255, RECORD, 255).reached(), 256);
         due("wide closure", wide(4095, CLOSURE, 0, 4095).reached(), 4096);
         due("longest string", longest().reached(), 1 + 16384);
+    }
+
+    /** What only the run leads to does not count, but it is there still when new objects are made. */
+    private static void reachedWhileOn() {
+        CellEngine x = with(LOCALS, 1, INT, 7, REF, STORE, 0, INT, 1, INT, 8, RECORD, 2, INT, 9, CLOSURE, 26, 1, INT, 5, CALL);
+        add(x, LOCAL, 0, RECORD, 3, STOP, INT, 6, REF, INT, 6, REF, POP, FREE, 0, RECORD, 2, RETURN);
+        x.start(0, 0);
+        for (int turn = 0; turn < 40 && x.step(0) == ON; turn++) {
+            due("nothing from globals", x.reached(), 0);
+            x.step(1);
+        }
+        due("stop", x.step(0), STOPPED);
+        due("a record of three, with 3, 3, 2 and 2", x.reached(), 4 + 3 + 3 + 2 + 2);
+        int[] want = {1, 8, 6, 9, 7};
+        long[] paths = {0x0101, 0x0201, 0x010102, 0x0202, 0x0103};
+        for (int k = 0; k < want.length; k++) {
+            dueLook(x, NONE, paths[k], 0, want[k], 0);
+        }
     }
 
     private static void saveEnds() {
