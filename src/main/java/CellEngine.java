@@ -667,6 +667,7 @@ public final class CellEngine {
             if (((int) head & Value.KIND_MASK) == Value.SCALAR) {
                 return head | kind;
             }
+            // As sizeOf() does, without a call more: the calls that lead here are as many as may stand open.
             int size = kind == Value.STRING ? 1 + ((int) (head >> 3) + 3) / 4
                 : kind == Value.PACKET ? 2 : 1 + (int) (head >>> Value.COUNT_SHIFT);
             int to = spareUsed;
@@ -678,7 +679,7 @@ public final class CellEngine {
             return (long) to << 3 | kind;
         }
 
-        private int sizeOf(long head) {
+        int sizeOf(long head) {
             int kind = (int) head & Value.KIND_MASK;
             return kind == Value.STRING ? 1 + ((int) (head >> 3) + 3) / 4
                 : kind == Value.PACKET ? 2 : 1 + (int) (head >>> Value.COUNT_SHIFT);

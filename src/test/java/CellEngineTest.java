@@ -542,6 +542,28 @@ public final class CellEngineTest extends Checks {
         due("global 5", x.look(5, 0, 1), 2);
         saveOfARunThatIsOn();
         restoreOfNothing();
+        restoreOfLess();
+    }
+
+    /** What was gone through before a restore() tells nothing of the objects that are made behind it. */
+    private static void restoreOfLess() {
+        CellEngine x = with(INT, 0, SETGLOBAL, 1, TICK, GLOBAL, 1, REF, SETGLOBAL, 1, JUMP, 4);
+        due("much", run(x, 0, 50), NO_FUEL);
+        due("reached", x.reached(), 100);
+        due("restore", x.restore(), 0);
+        x.cut(0);
+        add(x, TICK, GLOBAL, 4, INT, 1, PRIM, 0, DUP, SETGLOBAL, 4, GLOBAL, 2, RECORD, 2, SETGLOBAL, 2, JUMP, 0);
+        due("a chain across it", run(x, 0, 40), NO_FUEL);
+        due("collect", x.collect(1), true);
+        due("more of it", run(x, 0, 20), NO_FUEL);
+        due("reached", x.reached(), 180);
+        x.cut(0);
+        add(x, TICK, GLOBAL, 5, GLOBAL, 2, FIELD, 0, PRIM, 0, SETGLOBAL, 5);
+        add(x, GLOBAL, 2, FIELD, 1, SETGLOBAL, 2, JUMP, 0);
+        due("the way back", run(x, 0, 60), NO_FUEL);
+        due("sum", x.look(5, 0, 1), 60 * 61 / 2);
+        due("end of the chain", x.look(2, 0, 0), 0);
+        due("reached", x.reached(), 0);
     }
 
     private static void dueCounts(CellEngine x, int fuel, int ticks, int made, int depth, int frames, int values,
@@ -932,20 +954,33 @@ public final class CellEngineTest extends Checks {
         sharedParts();
     }
 
-    /** Two towers of records in which each one leads to the one below twice: the ways down are 2 to the 1,000. */
+    /** Two towers of records, each of which leads to the one below twice or more: the ways down are 2 to the 1,000. */
     private static void sharedParts() {
-        for (int last = 1; last <= 2; last++) {
-            CellEngine x = with(INT, 1, SETGLOBAL, 10, INT, last, SETGLOBAL, 11, TICK);
-            add(x, GLOBAL, 10, DUP, RECORD, 2, SETGLOBAL, 10, GLOBAL, 11, DUP, RECORD, 2, SETGLOBAL, 11, JUMP, 8);
-            due("run", run(x, 0, 1000), NO_FUEL);
-            int place = x.count(0);
-            add(x, GLOBAL, 10, GLOBAL, 11, EQUAL, GLOBAL, 11, GLOBAL, 10, EQUAL, RECORD, 2, STOP);
-            due("run", run(x, place, 0), STOPPED);
-            due("towers on " + last, x.look(NONE, 1, 1), last == 1 ? 1 : 0);
-            due("towers on " + last, x.look(NONE, 2, 1), last == 1 ? 1 : 0);
-            due("again", run(x, place, 0), STOPPED);
-            due("towers on " + last, x.look(NONE, 1, 1), last == 1 ? 1 : 0);
+        for (int width = 2; width <= 4; width++) {
+            dueTowers(width, 1);
+            dueTowers(width, 2);
         }
+    }
+
+    private static void dueTowers(int width, int last) {
+        String what = "towers of " + width + " on " + last;
+        CellEngine x = with(INT, 1, SETGLOBAL, 10, INT, last, SETGLOBAL, 11, TICK);
+        for (int global = 10; global <= 11; global++) {
+            add(x, GLOBAL, global);
+            for (int k = 1; k < width; k++) {
+                x.code(DUP);
+            }
+            add(x, RECORD, width, SETGLOBAL, global);
+        }
+        add(x, JUMP, 8);
+        due(what + " run", run(x, 0, 1000), NO_FUEL);
+        int place = x.count(0);
+        add(x, GLOBAL, 10, GLOBAL, 11, EQUAL, GLOBAL, 11, GLOBAL, 10, EQUAL, RECORD, 2, STOP);
+        due(what + " run", run(x, place, 0), STOPPED);
+        due(what, x.look(NONE, 1, 1), last == 1 ? 1 : 0);
+        due(what, x.look(NONE, 2, 1), last == 1 ? 1 : 0);
+        due(what + " again", run(x, place, 0), STOPPED);
+        due(what, x.look(NONE, 1, 1), last == 1 ? 1 : 0);
     }
 
     private static void numbers() {
